@@ -1026,8 +1026,8 @@ public final class Thermographica {
             for (int i = 0; i < first.within.length; i++) {
                 for (int j = 0; j < second.within.length; j++) {
                     last = cell(i, j);
-                    boolean isLefts = leftHasWin(first.within[i], second.within[j], i, j);
-                    boolean isRights = rightHasWin(first.within[i], second.within[j], i, j);
+                    boolean isLefts = hasWin(true, first.within[i], second.within[j], i, j);
+                    boolean isRights = hasWin(false, first.within[i], second.within[j], i, j);
                     if (last < leftWins.length && last < rightWins.length) {
                         leftWins[last] = isLefts;
                         rightWins[last] = isRights;
@@ -1065,28 +1065,16 @@ public final class Thermographica {
             return at >= 0 && at < wins.length && wins[at];
         }
 
-        private boolean leftHasWin(Position first, Position second, int i, int j) {
-            for (Position option : first.left) {
-                if (!isWin(rightWins, cell(placeOf(option, firstPlaces), j))) {
+        /** In the turned game each player has the other one's options. */
+        private boolean hasWin(boolean isLeft, Position first, Position second, int i, int j) {
+            boolean[] otherWins = isLeft ? rightWins : leftWins;
+            for (Position option : first.optionsFor(isLeft)) {
+                if (!isWin(otherWins, cell(placeOf(option, firstPlaces), j))) {
                     return true;
                 }
             }
-            for (Position option : second.right) {
-                if (!isWin(rightWins, cell(i, placeOf(option, secondPlaces)))) {
-                    return true;
-                }
-            }
-            return false;
-        }
-
-        private boolean rightHasWin(Position first, Position second, int i, int j) {
-            for (Position option : first.right) {
-                if (!isWin(leftWins, cell(placeOf(option, firstPlaces), j))) {
-                    return true;
-                }
-            }
-            for (Position option : second.left) {
-                if (!isWin(leftWins, cell(i, placeOf(option, secondPlaces)))) {
+            for (Position option : second.optionsFor(!isLeft)) {
+                if (!isWin(otherWins, cell(i, placeOf(option, secondPlaces)))) {
                     return true;
                 }
             }
