@@ -17,7 +17,7 @@ final class Check {
     }
 
     static void same(String what, double got, double due) {
-        tell(got == due && 1 / (got + 1000) == 1 / (due + 1000), what, String.valueOf(got), String.valueOf(due));
+        tell(got == due, what, String.valueOf(got), String.valueOf(due));
     }
 
     static void same(String what, boolean got, boolean due) {

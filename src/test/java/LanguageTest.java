@@ -9,11 +9,14 @@ import java.util.regex.Pattern;
 /** Looks for what LANGUAGE.md rules out, as far as it shows in the text of the program. */
 public final class LanguageTest {
     private static final String[] RULED_OUT = {
-        "String\\s*\\[", "->", "::", "\\bcatch\\b", "\\bfinally\\b", "\\bsynchronized\\b", "\\bassert\\b",
-        "\\binstanceof\\b", "\\bSystem\\b", "\\bThread\\b", "\\bRandom\\b", "\\bvar\\b", "\\bjava\\.(?!util\\.NoSuchElementException;)",
-        "Exact\\s*\\(", "\\.equals\\(", "hashCode", "\\[\\]\\s*\\[\\]", "\"\\s*\\+", "\\+\\s*\"", "\\bgoto\\b", "\\bMath\\.(?!min\\(|max\\()",
-        "\\bwhile\\s*\\(", "new ArrayList", "\\bprotected\\b",
+        "String\\s*\\[\\s*\\]", "(?m)^(?!.*\\b(case|default)\\b).*->", "::", "\\bfinally\\b", "\\bsynchronized\\b", "\\bassert\\b",
+        "\\bSystem\\.(?!arraycopy\\()", "\\bThread\\b", "\\bRandom\\b", "\\bClass\\b",
+        "\\bjava\\.(?!util\\.(NoSuchElementException|ArrayList|List|Arrays|Iterator);)", "Exact\\s*\\(", "\\bhashCode\\b",
+        "\\bgetMessage\\b", "\\bextends \\w*Exception\\b", "\"\\s*\\+", "\\+\\s*\"", "\\bMath\\.(sqrt|pow|random|floor|ceil|round|rint)\\(",
+        "\\bprotected\\b", "\\btry\\s*\\(", "\\[\\]\\s*\\[\\]\\s*\\[\\]",
     };
+    private static final String[] THROWN = {"ArithmeticException", "IllegalArgumentException", "IllegalStateException",
+        "IndexOutOfBoundsException", "NoSuchElementException", "UnsupportedOperationException", "RuntimeException"};
     private static final int LONGEST_METHOD = 60;
 
     public static void main(String[] args) throws IOException {
@@ -27,8 +30,8 @@ public final class LanguageTest {
         while (throwing.find()) {
             thrown.add(throwing.group(1));
         }
-        Check.same("exceptions thrown", String.join(" ", thrown), "ArithmeticException IllegalArgumentException "
-                + "IllegalStateException IndexOutOfBoundsException NoSuchElementException UnsupportedOperationException");
+        thrown.removeAll(Set.of(THROWN));
+        Check.same("other exceptions thrown", String.join(" ", thrown), "");
         Check.same("throws that make no exception", count(code, "\\bthrow (?!new )"), 0);
         checkLengths(text);
         Check.end("LanguageTest");

@@ -12,9 +12,10 @@ public final class ReferenceTest {
     private static Random random;
     private static int gameCount;
     private static String run;
+    private static int calls;
 
     public static void main(String[] args) {
-        int runs = args.length > 0 ? Integer.parseInt(args[0]) : 600;
+        int runs = args.length > 0 ? Integer.parseInt(args[0]) : 1200;
         int from = args.length > 1 ? Integer.parseInt(args[1]) : 0;
         for (int seed = from; seed < from + runs; seed++) {
             oneRun(seed);
@@ -28,8 +29,9 @@ public final class ReferenceTest {
         random = new Random(seed);
         gameCount = 0;
         int style = seed % 5;
+        calls = 0;
         for (int i = 0; i < CALLS; i++) {
-            run = "run " + seed + ", call " + i + ": ";
+            run = "run " + seed + ", step " + i + ": ";
             int kind = random.nextInt(100);
             if (kind < (gameCount < 24 ? 45 : 5)) {
                 build(style);
@@ -141,13 +143,15 @@ public final class ReferenceTest {
         same(what + "(" + first + ", " + isLeft + ", " + sixteenths + ")", () -> ask(what, first, isLeft, sixteenths),
                 y.ask(what, first, isLeft, sixteenths), false);
         if (what.equals("write")) {
-            for (int i = -1; i <= 200; i++) {
-                int index = i;
+            int from = random.nextInt(4) == 0 ? 180 : random.nextInt(4) == 0 ? random.nextInt(200) : -1;
+            for (int i = 0; i < 22; i++) {
+                int index = from + i;
                 same("charAt(" + index + ")", () -> String.valueOf(x.charAt(index)), y.charAt(index), false);
             }
         }
     }
 
+    /** 0 is added to numbers so that 0 below and above are the same. */
     private static String ask(String what, int game, boolean isLeft, int sixteenths) {
         switch (what) {
             case "positions":
@@ -159,7 +163,7 @@ public final class ReferenceTest {
             case "kindOf":
                 return String.valueOf(x.kindOf(game));
             case "number":
-                return String.valueOf(x.number(game));
+                return String.valueOf(x.number(game) + 0.0);
             case "heapOf":
                 return String.valueOf(x.heapOf(game));
             case "birthday":
@@ -169,13 +173,13 @@ public final class ReferenceTest {
             case "write":
                 return String.valueOf(x.write(game));
             case "stop":
-                return String.valueOf(x.stop(game, isLeft));
+                return String.valueOf(x.stop(game, isLeft) + 0.0);
             case "wall":
-                return String.valueOf(x.wall(game, isLeft, sixteenths));
+                return String.valueOf(x.wall(game, isLeft, sixteenths) + 0.0);
             case "temperature":
-                return String.valueOf(x.temperature(game));
+                return String.valueOf(x.temperature(game) + 0.0);
             default:
-                return String.valueOf(x.mean(game));
+                return String.valueOf(x.mean(game) + 0.0);
         }
     }
 
@@ -203,7 +207,12 @@ public final class ReferenceTest {
         same("isSound()", () -> String.valueOf(x.isSound()), "true", false);
     }
 
+    /** An object is used for 512 calls, and for none behind them: what the reference answers then is not asked. */
     private static void same(String call, Supplier<String> asked, String due, boolean isMade) {
+        if (calls == CALLS) {
+            return;
+        }
+        calls++;
         String got;
         try {
             got = asked.get();
