@@ -75,7 +75,7 @@ public final class FiguresTest {
         for (; calls < 24; calls++) {
             x.turned(wide);
         }
-        for (; calls < 512; calls++) {
+        for (; calls < 511; calls++) {
             if (calls % 5 == 0) {
                 Check.same("isSound, call " + calls, x.isSound(), true);
             } else if (calls % 5 == 1) {
