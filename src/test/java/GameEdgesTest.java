@@ -25,6 +25,7 @@ public final class GameEdgesTest {
         depthOfAll();
         twelveDeepMade();
         twelveDeepSummed();
+        asManyAndAsDeepAsCanBe();
         tooManyAndTooDeep();
         Check.end("GameEdgesTest");
     }
@@ -590,6 +591,24 @@ public final class GameEdgesTest {
         int six = x.sum(x.whole(6), x.whole(4));
         Check.same("a sum of 10, with 35 positions", x.depth(six), 10);
         Check.same("no game was made by the refused calls", x.whole(1), six + 1);
+    }
+
+    /** A sum that has 40 positions and is 12 deep stands, and all can be asked of it. */
+    private static void asManyAndAsDeepAsCanBe() {
+        Thermographica x = new Thermographica();
+        int nine = Shelf.chain(x, 9);
+        int three = x.whole(-3);
+        int sum = x.sum(nine, three);
+        Check.same("40 positions", x.positions(sum), 40);
+        Check.same("12 moves in a row", x.depth(sum), 12);
+        Check.same("its value", x.number(sum), 6.0);
+        Check.same("by play", x.compareByPlay(sum, x.whole(6)), '=');
+        int turned = x.turned(sum);
+        Check.same("turned", x.positions(turned) * 100 + x.depth(turned), 4012);
+        Check.same("by play with the turned one", x.compareByPlay(sum, turned), '>');
+        x.tellOption(true, sum);
+        Check.tooMuch("one more move", x::make);
+        Check.same("sound", x.isSound(), true);
     }
 
     /** "if it would have more than 40 positions, or would be too deep": and if both. */
