@@ -331,9 +331,9 @@ public final class Thermographica {
         return now;
     }
 
-    private char signByForms(Game first, Game second) {
-        boolean isAtMost = catalogue.forms.isAtMost(first.top.form, second.top.form);
-        boolean isAtLeast = catalogue.forms.isAtMost(second.top.form, first.top.form);
+    private static char signByForms(Game first, Game second) {
+        boolean isAtMost = FormBook.isAtMost(first.top.form, second.top.form);
+        boolean isAtLeast = FormBook.isAtMost(second.top.form, first.top.form);
         if (isAtMost) {
             return isAtLeast ? '=' : '<';
         }
@@ -523,7 +523,7 @@ public final class Thermographica {
         }
 
         /** Goes as deep as the two are together, which is 12 at most. */
-        Position sumOf(Position first, Position second) {
+        private Position sumOf(Position first, Position second) {
             for (Position known = first.sums; known != null; known = known.nextSum) {
                 if (known.second == second) {
                     return known;
@@ -552,7 +552,7 @@ public final class Thermographica {
         }
 
         /** Goes as deep as the position is, which is 12 at most. */
-        Position turnedOf(Position position) {
+        private Position turnedOf(Position position) {
             if (position.turned == null) {
                 Position[] left = allTurned(position.right);
                 Position[] right = allTurned(position.left);
@@ -876,7 +876,7 @@ public final class Thermographica {
         }
 
         /** Each step leaves one of the two forms for an option of it: so it goes 24 deep at most. */
-        boolean isAtMost(Form low, Form high) {
+        private static boolean isAtMost(Form low, Form high) {
             if (low == high) {
                 return true;
             }
@@ -969,7 +969,7 @@ public final class Thermographica {
         }
 
         /** Goes to options only: so it goes 12 deep at most. */
-        static int wallAt(Form form, boolean isLeft, int time) {
+        private static int wallAt(Form form, boolean isLeft, int time) {
             Heat heat = form.heat;
             if (time >= heat.temperature) {
                 return heat.mean;
@@ -1085,7 +1085,7 @@ public final class Thermographica {
     /** Writes forms. */
     private static final class Scribe {
         /** The text, or null if it is too long. Goes to options only: so it goes 12 deep at most. */
-        static String textOf(Form form) {
+        private static String textOf(Form form) {
             if (!form.isTextTried) {
                 form.isTextTried = true;
                 form.text = newText(form);

@@ -1,60 +1,42 @@
+import java.io.IOException;
 import java.lang.reflect.Constructor;
 import java.lang.reflect.Field;
 import java.lang.reflect.Method;
 import java.lang.reflect.Modifier;
-import java.util.Arrays;
+import java.nio.file.Files;
+import java.nio.file.Path;
+import java.util.ArrayList;
+import java.util.HashMap;
+import java.util.List;
+import java.util.Map;
 import java.util.TreeSet;
+import java.util.regex.Matcher;
+import java.util.regex.Pattern;
 
-/** The face is the document's, with nothing more. */
+/** The face is the document's, line by line, under the headings that it names, with nothing more. */
 public final class FaceTest {
-    private static final String[] FACE = {
-        "int tellOption(boolean,int) IndexOutOfBoundsException IllegalStateException",
-        "int clearOptions()",
-        "int make() UnsupportedOperationException IllegalStateException",
-        "int whole(int) IllegalArgumentException IllegalStateException",
-        "int heap(int) IllegalArgumentException IllegalStateException",
-        "int sum(int,int) IndexOutOfBoundsException UnsupportedOperationException IllegalStateException",
-        "int turned(int) IndexOutOfBoundsException IllegalStateException",
-        "int positions(int) IndexOutOfBoundsException",
-        "int depth(int) IndexOutOfBoundsException",
-        "char compare(int,int) IndexOutOfBoundsException",
-        "char compareByPlay(int,int) IndexOutOfBoundsException",
-        "char outcome(int) IndexOutOfBoundsException",
-        "char kindOf(int) IndexOutOfBoundsException",
-        "double number(int) IndexOutOfBoundsException NoSuchElementException",
-        "int heapOf(int) IndexOutOfBoundsException NoSuchElementException",
-        "int birthday(int) IndexOutOfBoundsException",
-        "int options(int,boolean) IndexOutOfBoundsException",
-        "int write(int) IndexOutOfBoundsException UnsupportedOperationException",
-        "char charAt(int) IndexOutOfBoundsException",
-        "double stop(int,boolean) IndexOutOfBoundsException",
-        "double wall(int,boolean,int) IndexOutOfBoundsException IllegalArgumentException",
-        "double temperature(int) IndexOutOfBoundsException NoSuchElementException",
-        "double mean(int) IndexOutOfBoundsException",
-        "int begin(int,boolean) IndexOutOfBoundsException",
-        "int move(int) IllegalStateException IndexOutOfBoundsException",
-        "int takeBack() NoSuchElementException",
-        "boolean canWin() IllegalStateException",
-        "int winningMove() IllegalStateException NoSuchElementException",
-        "int mistake() IllegalStateException NoSuchElementException",
-        "long moves()",
-        "float numberShare() ArithmeticException",
-        "boolean isSound()",
-    };
+    private static final Pattern SIGNATURE = Pattern.compile("(?m)^    (public (?:\\w+ )?\\w+\\([^;{]*)[;{]|^    (// ---- \\w+)$");
 
-    public static void main(String[] args) {
+    public static void main(String[] args) throws IOException {
         Class<?> face = Thermographica.class;
+        List<String> due = promised(Files.readString(Path.of("../shared/DOC.md")));
+        Check.same("the document has a face", due.size() > 30, true);
+        String program = Files.readString(Path.of("src/main/java/Thermographica.java"));
+        Check.same("the face as it is written", String.join("\n", linesOf(program)), String.join("\n", due));
         Check.same("the class is final", Modifier.isFinal(face.getModifiers()), true);
         Check.same("the class is public", Modifier.isPublic(face.getModifiers()), true);
         TreeSet<String> found = new TreeSet<>();
         TreeSet<String> names = new TreeSet<>();
         for (Method method : face.getDeclaredMethods()) {
             if (!Modifier.isPrivate(method.getModifiers())) {
-                found.add(told(method));
+                found.add(told(method, due));
                 names.add(method.getName());
             }
         }
-        Check.same("the methods", String.join("\n", found), String.join("\n", new TreeSet<>(Arrays.asList(FACE))));
+        TreeSet<String> lines = new TreeSet<>(due);
+        lines.removeIf(line -> line.startsWith("//") || line.startsWith("public Thermographica("));
+        Check.same("the methods", String.join("\n", found), String.join("\n", lines));
+        Check.same("constructors", face.getDeclaredConstructors().length, 1);
         for (Constructor<?> made : face.getDeclaredConstructors()) {
             Check.same("the constructor takes nothing", made.getParameterCount(), 0);
             Check.same("the constructor is public", Modifier.isPublic(made.getModifiers()), true);
@@ -86,17 +68,55 @@ public final class FaceTest {
         }
     }
 
-    private static String told(Method method) {
-        StringBuilder text = new StringBuilder();
+    /** Public lines and headings of a text, in their order, with single blanks. */
+    private static List<String> linesOf(String text) {
+        List<String> lines = new ArrayList<>();
+        Matcher found = SIGNATURE.matcher(text);
+        while (found.find()) {
+            String line = found.group(1) != null ? found.group(1) : found.group(2);
+            lines.add(line.replaceAll("\\s+", " ").trim());
+        }
+        return lines;
+    }
+
+    /** The face in the document, with each heading ahead of the first of the calls that it stands ahead of. */
+    private static List<String> promised(String document) {
+        Map<String, String> headings = new HashMap<>();
+        Matcher ahead = Pattern.compile("(?m)^Ahead of the calls `(\\w+)`.* the interface says: (---- \\w+)\\.$").matcher(document);
+        while (ahead.find()) {
+            headings.put(ahead.group(1), ahead.group(2));
+        }
+        Check.same("headings", headings.size(), 5);
+        int from = document.indexOf("```java");
+        List<String> lines = new ArrayList<>();
+        for (String line : linesOf(document.substring(from, document.indexOf("```", from + 1)))) {
+            String name = line.replaceAll("\\(.*", "").replaceAll(".* ", "");
+            if (headings.containsKey(name)) {
+                lines.add("// " + headings.get(name));
+            }
+            lines.add(line);
+        }
+        return lines;
+    }
+
+    /** A method as the document tells it: the names of its parameters are not kept, and are taken from there. */
+    private static String told(Method method, List<String> due) {
+        StringBuilder text = new StringBuilder("public ");
         text.append(method.getReturnType().getSimpleName()).append(' ').append(method.getName()).append('(');
+        String head = text.toString();
+        String names = due.stream().filter(line -> line.startsWith(head)).findFirst().orElse("");
+        String[] parameters = names.replaceAll(".*\\((.*)\\).*", "$1").split(", ");
         String between = "";
-        for (Class<?> type : method.getParameterTypes()) {
-            text.append(between).append(type.getSimpleName());
-            between = ",";
+        for (int i = 0; i < method.getParameterCount(); i++) {
+            String name = i < parameters.length ? parameters[i].replaceAll(".* ", "") : "";
+            text.append(between).append(method.getParameterTypes()[i].getSimpleName()).append(' ').append(name);
+            between = ", ";
         }
         text.append(')');
+        between = " throws ";
         for (Class<?> type : method.getExceptionTypes()) {
-            text.append(' ').append(type.getSimpleName());
+            text.append(between).append(type.getSimpleName());
+            between = ", ";
         }
         return text.toString();
     }
